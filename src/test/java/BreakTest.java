@@ -1,0 +1,128 @@
+/** Promises 10 and 25: breaks in rows of readings, and mending them. */
+public final class BreakTest {
+    public static void main(String[] args) {
+        found();
+        gainAtTheEdge();
+        firstOfSeveral();
+        several();
+        divisions();
+        mended();
+        held();
+        Check.end();
+    }
+
+    private static void readings(Diarycold x, int town, int year, int... tenths) {
+        for (int i = 0; i < tenths.length; i++) {
+            x.reading(town, year + i, tenths[i]);
+        }
+    }
+
+    private static void breaks(Diarycold x, String when, int town, int year, int k, int shift) {
+        Check.due("year of the break " + when, x.ofBreak(town, 0), year);
+        Check.due("k of the break " + when, x.ofBreak(town, 1), k);
+        Check.due("shift at the break " + when, x.ofBreak(town, 2), shift);
+    }
+
+    private static void found() {
+        Diarycold x = new Diarycold();
+        breaks(x, "without readings", 0, -1, -1, -999);
+        readings(x, 0, 1700, 0, 0, 0, 0, 0);
+        breaks(x, "without another town", 0, -1, -1, -999);
+        readings(x, 1, 1700, 0, 0, 100);
+        breaks(x, "of three years", 1, -1, -1, -999);
+        readings(x, 1, 1703, 100);
+        breaks(x, "of four years", 1, 1702, 2, 100);
+        breaks(x, "of the other town", 0, 1702, 2, -100);
+        x.reading(1, 1710, 400);
+        breaks(x, "with a year alone", 1, 1702, 2, 100);
+        x.reading(2, 1702, 100);
+        // Of town 1: 0, 0, 50, 100.
+        breaks(x, "with a third town", 1, 1702, 2, 75);
+        breaks(x, "of a town with one year", 2, -1, -1, -999);
+    }
+
+    private static void gainAtTheEdge() {
+        Diarycold x = new Diarycold();
+        readings(x, 0, 1700, 0, 0, 0, 0);
+        readings(x, 1, 1700, 0, 0, 40, 40);
+        // (0 * 2 - 80 * 2)^2 / 4 is 6400; the edge is 1600.
+        breaks(x, "above the edge", 1, 1702, 2, 40);
+        readings(x, 1, 1700, 0, 0, 20, 20);
+        breaks(x, "at the edge", 1, 1702, 2, 20);
+        readings(x, 1, 1700, 0, 0, 20, 19);
+        breaks(x, "below the edge", 1, -1, -1, -999);
+        Check.refuses(x, "mend(1) below the edge", () -> x.mend(1), Check.STATE);
+        Check.refuses(x, "mend(3) without readings", () -> x.mend(3), Check.STATE);
+    }
+
+    private static void firstOfSeveral() {
+        Diarycold x = new Diarycold();
+        readings(x, 0, 1700, 0, 0, 0, 0, 0, 0);
+        readings(x, 1, 1700, 0, 0, 100, 100, 0, 0);
+        // Behind 2 and behind 4 the gain is the same.
+        breaks(x, "twice as great", 1, 1702, 2, 50);
+    }
+
+    private static void several() {
+        Diarycold x = new Diarycold();
+        readings(x, 0, 1700, 10, 11, 12, 13, 14);
+        readings(x, 1, 1700, -10, -14, 0, 0, 0);
+        readings(x, 2, 1700, -5, 200, 200, 210, 220);
+        // Of town 2: -5 - 0, 200 - -1 (-3 / 2), 200 - 6, 210 - 6 (13 / 2), 220 - 7.
+        breaks(x, "by means of two towns", 2, 1701, 1, 208);
+    }
+
+    private static void divisions() {
+        Diarycold x = new Diarycold();
+        readings(x, 0, 1700, 0, 0, 0, 0, 0);
+        readings(x, 1, 1700, -5, 2, 90, 95, 96);
+        // -3 / 2 is -1, 281 / 3 is 93; in one division it would be 95.
+        breaks(x, "each part rounded by itself", 1, 1702, 2, 94);
+    }
+
+    private static void mended() {
+        Diarycold x = new Diarycold();
+        readings(x, 0, 1700, 100, 110, 90, 100);
+        readings(x, 1, 1700, 100, 108, 150, 160);
+        Diarycold late = new Diarycold();
+        readings(late, 0, 1710, 100, 110, 90, 100);
+        readings(late, 1, 1710, 100, 108, 150, 160);
+        late.reading(1, 1700, 7);
+        late.reading(1, 1799, 7);
+        Check.due("mend", x.mend(1), 61);
+        int[] want = {161, 169, 150, 160};
+        for (int i = 0; i < want.length; i++) {
+            Check.due("mended " + i, x.ofYear(1, 1700 + i, 2), want[i]);
+        }
+        breaks(x, "mended", 1, -1, -1, -999);
+        Check.due("other towns stay", x.ofYear(0, 1700, 2), 100);
+        Check.due("mend", late.mend(1), 61);
+        Check.due("also a year alone", late.ofYear(1, 1700, 2), 68);
+        Check.due("not a later one", late.ofYear(1, 1799, 2), 7);
+        Check.due("nor a year without", late.ofYear(1, 1701, 2), -999);
+        Check.due("readings", late.ofTown(1, 2), 6);
+    }
+
+    private static void held() {
+        Diarycold x = new Diarycold();
+        readings(x, 0, 1700, 400, 400, 400, 400);
+        readings(x, 1, 1700, -300, -300, 400, 400);
+        Check.due("mend up", x.mend(1), 700);
+        Check.due("mended up", x.ofYear(1, 1700, 2), 400);
+        Diarycold up = new Diarycold();
+        readings(up, 0, 1701, 400, 400, -300, -300);
+        readings(up, 1, 1701, -300, -300, 400, 400);
+        up.reading(1, 1700, 400);
+        Check.due("mend far up", up.mend(1), 1400);
+        Check.due("held at 900", up.ofYear(1, 1700, 2), 900);
+        Check.due("held at 900, too", up.ofYear(1, 1701, 2), 900);
+        Diarycold down = new Diarycold();
+        readings(down, 0, 1701, -300, -300, 400, 400);
+        readings(down, 1, 1701, 400, 400, -300, -300);
+        down.reading(1, 1700, -300);
+        Check.due("mend far down", down.mend(1), -1400);
+        Check.due("held at -900", down.ofYear(1, 1700, 2), -900);
+        Check.due("held at -900, too", down.ofYear(1, 1701, 2), -900);
+        Check.due("mend anew", down.mend(1) != 0, true);
+    }
+}

@@ -1,0 +1,129 @@
+/** Promises 13, 28, 29, 34 and 35: the librarian, counts, soundness and the checksum. */
+public final class DeskTest {
+    public static void main(String[] args) {
+        calls();
+        counts();
+        checksumOfNew();
+        checksum();
+        Check.end();
+    }
+
+    private static void calls() {
+        Diarycold x = new Diarycold();
+        for (int i = 1; i <= 5; i++) {
+            Check.due("call " + i, x.call(), i);
+        }
+        Check.due("refused", x.desk(12), 5);
+        Check.due("of another object", new Diarycold().call(), 1);
+    }
+
+    private static Diarycold filled() {
+        Diarycold x = new Diarycold();
+        x.book(0, 1700, 1720, -1);
+        x.book(0, 1700, 1720, 0);
+        x.book(3, 1700, 1720, -1);
+        x.withdraw(2, true);
+        x.meaning(0, 1700, -2);
+        x.meaning(1, 1700, 3);
+        x.line(0, 1, 0, 1710, 5, 5, 0);
+        x.line(1, 1, 0, 1710, 5, 6, 1);
+        x.line(1, 1, 0, 1711, 5, 6, 1);
+        x.line(1, 1, 0, 1711, 2, 29, 1);
+        x.line(1, 0, 2, 1711, 4, 5, 1);
+        x.line(0, 1, 0, 1721, 4, 5, 1);
+        x.line(0, 1, 0, 1720, 4, 5, 2);
+        x.line(2, 1, 0, 1720, 4, 5, 1);
+        for (int year = 1700; year < 1706; year++) {
+            x.harvest(0, year, 250 + 3 * (year - 1700) * (year % 2));
+            x.reading(0, year, 100 - (year - 1700) * (year - 1700));
+            x.reading(3, year, year < 1703 ? 0 : 99);
+        }
+        x.law(0, 1702, 1704, 5);
+        x.leaveOut(0, 1701, true);
+        x.prayer(0, 1720, 12, 5);
+        x.prayer(0, 1721, 1, 3);
+        x.prayer(0, 1722, 1, 1);
+        x.mark(0, 1703, 120);
+        x.mark(0, 1803, 99);
+        x.call();
+        return x;
+    }
+
+    private static void counts() {
+        Diarycold x = filled();
+        int[] desk = {3, 1, 8, 3, 1, 1, 1, 1, 1, 2, 1, 2, 1};
+        for (int what = 0; what <= 12; what++) {
+            Check.due("desk(" + what + ")", x.desk(what), desk[what]);
+        }
+        int[] town = {2, 6, 6, 5, 2, 2, 2, 1, 2};
+        for (int what = 0; what <= 8; what++) {
+            Check.due("ofTown(0, " + what + ")", x.ofTown(0, what), town[what]);
+        }
+        int[] other = {1, 0, 6, 0, 0, 0, 0, 0, 0};
+        for (int what = 0; what <= 8; what++) {
+            Check.due("ofTown(3, " + what + ")", x.ofTown(3, what), other[what]);
+        }
+        Check.due("isSound", x.isSound(), true);
+    }
+
+    /** Of a new object there are only the counts of desk and towns. */
+    private static void checksumOfNew() {
+        long d = 58270;
+        for (int i = 0; i < 13; i++) {
+            d = d * 31;
+        }
+        int[] town = {0, 0, 0, 0, 0, 0, 0, 0, 0, -1, -1, -999, 0, 0, -1, -1, -1, -1};
+        for (int i = 0; i < 4; i++) {
+            for (int v : town) {
+                d = d * 31 + v;
+            }
+        }
+        d = d * 31 + 1;
+        Check.due("digest of a new object", new Diarycold().digest(), d);
+    }
+
+    private static void checksum() {
+        Diarycold x = filled();
+        long d = 58270;
+        for (int what = 0; what <= 12; what++) {
+            d = d * 31 + x.desk(what);
+        }
+        for (int book = 0; book < 3; book++) {
+            for (int what = 0; what <= 7; what++) {
+                d = d * 31 + x.ofBook(book, what);
+            }
+            d = d * 31 + x.without(book);
+        }
+        for (int line = 0; line < 8; line++) {
+            for (int what = 0; what <= 5; what++) {
+                d = d * 31 + x.ofLine(line, what);
+            }
+            for (int nth = 0; nth <= 2; nth++) {
+                d = d * 31 + x.can(line, nth);
+            }
+            for (int what = 0; what <= 3 && x.can(line, 0) != -1; what++) {
+                int town = x.ofBook(x.ofLine(line, 0), 0);
+                d = d * 31 + x.degree(town, x.ofLine(line, 3), x.ofLine(line, 4), what);
+            }
+        }
+        for (int town = 0; town < 4; town++) {
+            for (int what = 0; what <= 8; what++) {
+                d = d * 31 + x.ofTown(town, what);
+            }
+            for (int what = 0; what <= 2; what++) {
+                d = d * 31 + x.ofBreak(town, what);
+            }
+            d = d * 31 + (long) (64 * x.fit(town, false));
+            d = d * 31 + (long) (64 * x.returns(town, 100));
+            for (int what = 0; what <= 3; what++) {
+                d = d * 31 + x.drought(town, 0, what);
+            }
+        }
+        d = d * 31 + (x.isSound() ? 1 : 0);
+        Check.due("digest", x.digest(), d);
+        Check.due("the slope is no whole number", x.fit(0, false) != Math.rint(x.fit(0, false)), true);
+        Check.due("digest again", x.digest(), d);
+        x.call();
+        Check.due("another digest", x.digest() == d, false);
+    }
+}
