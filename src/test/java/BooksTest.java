@@ -6,6 +6,7 @@ public final class BooksTest {
         withdrawals();
         meanings();
         days();
+        ladyDay();
         flaws();
         telling();
         limits();
@@ -54,6 +55,9 @@ public final class BooksTest {
         Check.due("withdrawn", x.ofBook(1, 5), 1);
         Check.due("not withdrawn", x.ofBook(0, 5), 0);
         Check.due("desk(1)", x.desk(1), 1);
+        x.withdraw(0, true);
+        Check.due("desk(1), both", x.desk(1), 2);
+        x.withdraw(0, false);
         Check.due("take back", x.withdraw(1, false), true);
         Check.due("take back again", x.withdraw(1, false), false);
         Check.due("not withdrawn any more", x.ofBook(1, 5), 0);
@@ -104,6 +108,18 @@ public final class BooksTest {
         }
     }
 
+    private static void ladyDay() {
+        int[][] dates = {{3, 24, 1701}, {3, 25, 1700}, {3, 26, 1700}, {3, 1, 1701}, {4, 1, 1700}, {4, 24, 1700},
+            {2, 28, 1701}, {12, 31, 1700}, {1, 1, 1701}, {1, 31, 1701}};
+        Diarycold x = new Diarycold();
+        x.book(0, 1200, 1899, -1);
+        for (int i = 0; i < dates.length; i++) {
+            x.line(0, 1, 1, 1700, dates[i][0], dates[i][1], 0);
+            Check.due("year of " + dates[i][1] + ". " + dates[i][0] + ".", x.ofLine(i, 3), dates[i][2]);
+            Check.due("month of " + dates[i][1] + ". " + dates[i][0] + ".", x.ofLine(i, 4), dates[i][0]);
+        }
+    }
+
     private static void flaws() {
         Diarycold x = new Diarycold();
         x.book(0, 1700, 1710, -1);
@@ -122,7 +138,10 @@ public final class BooksTest {
         Check.due("degree of a flawed line", x.ofLine(1, 5), 2);
         Check.due("its lines", x.ofBook(0, 6), 7);
         Check.due("those that count", x.ofBook(0, 7), 2);
-        int[] desk = {1, 0, 7, 2, 0, 1, 1, 2, 1, 1};
+        x.book(0, 1700, 1710, -1);
+        Check.due("lines of another book", x.ofBook(1, 6), 0);
+        Check.due("those that count of another book", x.ofBook(1, 7), 0);
+        int[] desk = {2, 0, 7, 2, 0, 1, 1, 2, 1, 1};
         for (int what = 0; what < desk.length; what++) {
             Check.due("desk(" + what + ")", x.desk(what), desk[what]);
         }

@@ -6,6 +6,8 @@ public final class BreakTest {
         firstOfSeveral();
         several();
         divisions();
+        weights();
+        wholeRow();
         mended();
         held();
         Check.end();
@@ -78,6 +80,25 @@ public final class BreakTest {
         readings(x, 1, 1700, -5, 2, 90, 95, 96);
         // -3 / 2 is -1, 281 / 3 is 93; in one division it would be 95.
         breaks(x, "each part rounded by itself", 1, 1702, 2, 94);
+    }
+
+    private static void weights() {
+        Diarycold x = new Diarycold();
+        readings(x, 0, 1700, 0, 0, 0, 0);
+        readings(x, 1, 1700, 92, 36, 0, 0);
+        // 240^2 / 3 is 19200, 256^2 / 4 is 16384.
+        breaks(x, "behind one year", 1, 1701, 1, -80);
+    }
+
+    private static void wholeRow() {
+        Diarycold x = new Diarycold();
+        for (int year = 1700; year <= 1799; year++) {
+            x.reading(0, year, 0);
+            x.reading(1, year, year < 1799 ? 0 : 21);
+        }
+        breaks(x, "ahead of the last year", 1, 1799, 99, 21);
+        x.reading(1, 1799, 20);
+        breaks(x, "with a gain of 39600", 1, -1, -1, -999);
     }
 
     private static void mended() {

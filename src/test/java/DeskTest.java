@@ -36,6 +36,8 @@ public final class DeskTest {
         for (int year = 1700; year < 1706; year++) {
             x.harvest(0, year, 250 + 3 * (year - 1700) * (year % 2));
             x.reading(0, year, 100 - (year - 1700) * (year - 1700));
+            x.harvest(2, year, 250 + year % 2);
+            x.reading(2, year, year % 2 * 301 + year % 3);
             x.reading(3, year, year < 1703 ? 0 : 99);
         }
         x.law(0, 1702, 1704, 5);
@@ -44,7 +46,7 @@ public final class DeskTest {
         x.prayer(0, 1721, 1, 3);
         x.prayer(0, 1722, 1, 1);
         x.mark(0, 1703, 120);
-        x.mark(0, 1803, 99);
+        x.mark(0, 1803, 100);
         x.call();
         return x;
     }
@@ -122,6 +124,7 @@ public final class DeskTest {
         d = d * 31 + (x.isSound() ? 1 : 0);
         Check.due("digest", x.digest(), d);
         Check.due("the slope is no whole number", x.fit(0, false) != Math.rint(x.fit(0, false)), true);
+        Check.due("a steep slope", x.fit(2, false) > 250.0, true);
         Check.due("digest again", x.digest(), d);
         x.call();
         Check.due("another digest", x.digest() == d, false);

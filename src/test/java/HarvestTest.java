@@ -80,6 +80,13 @@ public final class HarvestTest {
         Check.due("slope of ripe", x.fit(0, false), slope);
         Check.due("start of ripe", x.fit(0, true), (395.0 - slope * 1015.0) / 4.0);
         Check.due("heat of ripe", x.heat(0, 1703), (395.0 - slope * 1015.0) / 4.0 + slope * 255.0);
+        Diarycold edges = new Diarycold();
+        int[][] points = {{1700, 200, 10}, {1750, 210, 20}, {1799, 220, 30}};
+        for (int[] point : points) {
+            edges.harvest(3, point[0], point[1]);
+            edges.reading(3, point[0], point[2]);
+        }
+        Check.due("through the first and the last year", edges.fit(3, true), -190.0);
         Diarycold alike = new Diarycold();
         for (int year = 1700; year < 1704; year++) {
             alike.harvest(2, year, 250);

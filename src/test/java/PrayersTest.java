@@ -47,6 +47,12 @@ public final class PrayersTest {
         drought(x, 0, 1700 * 12, 1, 8, 4);
         drought(x, 2, 1799 * 12 + 11, 1, 1, 1);
         Check.due("none of another town", x.ofTown(1, 4), 0);
+        x.prayer(0, 1799, 12, 1);
+        Check.due("a drought of the last month", x.ofTown(0, 4), 1);
+        Check.due("its months", x.ofTown(0, 5), 1);
+        x.prayer(3, 1700, 1, 1);
+        Check.due("a drought of the first month", x.ofTown(3, 4), 1);
+        Check.due("its months", x.ofTown(3, 5), 1);
         Check.due("sound", x.isSound(), true);
     }
 

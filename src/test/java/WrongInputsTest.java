@@ -195,7 +195,10 @@ public final class WrongInputsTest {
             method.invoke(x, arguments);
             return "answer";
         } catch (java.lang.reflect.InvocationTargetException thrown) {
-            return thrown.getCause().getClass().getSimpleName();
+            // The first frame of an exception that the program throws itself is the program's.
+            String where = thrown.getCause().getStackTrace()[0].getClassName();
+            String kind = thrown.getCause().getClass().getSimpleName();
+            return where.startsWith("Diarycold") ? kind : kind + " of " + where;
         } catch (IllegalAccessException closed) {
             return closed.toString();
         }
