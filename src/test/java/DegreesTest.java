@@ -5,6 +5,7 @@ public final class DegreesTest {
         copies();
         copiesFromAnotherTown();
         rounding();
+        bounds();
         withoutBooks();
         withoutByMonth();
         Check.end();
@@ -95,6 +96,17 @@ public final class DegreesTest {
         x.line(0, 1, 0, 1750, 6, 1, 3);
         x.line(0, 1, 0, 1750, 6, 1, 3);
         degrees(x, "above 0, rounded toward 0", 0, 1750, 6, 33, 6, 4, 0);
+    }
+
+    private static void bounds() {
+        Diarycold x = new Diarycold();
+        meanings(x);
+        x.book(0, 1200, 1899, -1);
+        x.line(0, 1, 0, 1750, 6, 1, 0);
+        x.line(0, 1, 0, 1750, 7, 1, 6);
+        degrees(x, "at the least", 0, 1750, 6, -300, 1, 0, 0);
+        degrees(x, "at the greatest", 0, 1750, 7, 300, 1, 0, 0);
+        Check.due("both are sound", x.isSound(), true);
     }
 
     private static void withoutBooks() {

@@ -10,7 +10,7 @@ import java.util.Random;
 
 /** Runs of random calls, each answered by the program and by the model of it in Model.java. */
 public final class RandomRunsTest {
-    private static final int RUNS = 300;
+    private static final int RUNS = 200;
     private static final int CALLS = 512;
 
     /** What stands for each parameter: T town, B book, Y year, y year of 1700 to 1799 and so on. */
