@@ -8,6 +8,10 @@ public final class BooksTest {
         days();
         ladyDay();
         flaws();
+        firstFlaw();
+        lateByAnotherCalendar();
+        edgesOfMeanings();
+        edgesOfLines();
         telling();
         limits();
         Check.end();
@@ -44,6 +48,13 @@ public final class BooksTest {
         }
         x.withdraw(0, true);
         Check.due("the root stays, withdrawn or not", x.ofBook(2, 4), 0);
+        Check.due("copied from a withdrawn one", x.book(0, 1300, 1300, 0), 4);
+        Check.due("its root", x.ofBook(4, 4), 0);
+        Check.due("copied from the one before", x.book(0, 1300, 1300, 4), 5);
+        Check.due("from which", x.ofBook(5, 3), 4);
+        Check.due("the root of that", x.ofBook(5, 4), 0);
+        Check.due("copied from one that is no copy", x.book(0, 1300, 1300, 3), 6);
+        Check.due("the other root", x.ofBook(6, 4), 3);
     }
 
     private static void withdrawals() {
@@ -156,6 +167,89 @@ public final class BooksTest {
         Check.due("desk(4), withdrawn", x.desk(4), 7);
         x.withdraw(0, false);
         Check.due("counts again", x.ofLine(0, 1), 0);
+    }
+
+    /** Where several flaws hold, it is the first of them. */
+    private static void firstFlaw() {
+        Diarycold x = new Diarycold();
+        x.book(0, 1650, 1699, -1);
+        x.book(0, 1650, 1710, -1);
+        x.line(0, 1, 2, 1704, 4, 1, 0);
+        x.line(0, 1, 0, 1700, 1, 1, 0);
+        x.line(0, 1, 0, 1703, 2, 29, 0);
+        x.line(1, 1, 2, 1704, 4, 1, 0);
+        x.line(1, 1, 0, 1700, 1, 1, 0);
+        Check.due("in doubt, too late, without meaning", x.ofLine(0, 1), 3);
+        Check.due("too late, without meaning", x.ofLine(1, 1), 4);
+        Check.due("on no day, without meaning", x.ofLine(2, 1), 2);
+        Check.due("in doubt, without meaning", x.ofLine(3, 1), 3);
+        Check.due("without meaning", x.ofLine(4, 1), 5);
+        x.meaning(0, 1700, 0);
+        Check.due("in doubt, too late", x.ofLine(0, 1), 3);
+        Check.due("too late", x.ofLine(1, 1), 4);
+        Check.due("on no day", x.ofLine(2, 1), 2);
+        Check.due("in doubt", x.ofLine(3, 1), 3);
+        Check.due("counts", x.ofLine(4, 1), 0);
+        x.withdraw(0, true);
+        for (int line = 0; line < 3; line++) {
+            Check.due("withdrawn and flawed besides", x.ofLine(line, 1), 1);
+        }
+        Check.due("of a book that is not withdrawn", x.ofLine(4, 1), 0);
+    }
+
+    /** A day of the last year of a book can lie in the next year by the new calendar. */
+    private static void lateByAnotherCalendar() {
+        Diarycold x = new Diarycold();
+        x.book(0, 1710, 1710, -1);
+        x.meaning(0, 1710, 1);
+        x.line(0, 0, 0, 1710, 12, 20, 0);
+        x.line(0, 0, 0, 1710, 12, 21, 0);
+        x.line(0, 1, 1, 1710, 3, 24, 0);
+        x.line(0, 1, 1, 1710, 3, 25, 0);
+        x.line(0, 1, 1, 1709, 3, 24, 0);
+        Check.due("the last day", x.tell(0), "0: book 0, 1710-12-31, counts");
+        Check.due("the day behind it", x.tell(1), "1: book 0, 1711-1-1, flawed 4");
+        Check.due("the end of that year", x.tell(2), "2: book 0, 1711-3-24, flawed 4");
+        Check.due("its beginning", x.tell(3), "3: book 0, 1710-3-25, counts");
+        Check.due("the end of the year before", x.tell(4), "4: book 0, 1710-3-24, counts");
+    }
+
+    private static void edgesOfMeanings() {
+        Diarycold x = new Diarycold();
+        Check.due("from the first year on", x.meaning(0, 1200, -3), 1);
+        Check.due("from the last year on", x.meaning(7, 1899, 3), 2);
+        Check.due("in the first year", x.means(0, 1200), -3);
+        Check.due("in 1900", x.means(0, 1900), -3);
+        Check.due("ahead of the last year", x.means(7, 1898), -99);
+        Check.due("in the last year", x.means(7, 1899), 3);
+        Check.due("behind it", x.means(7, 1900), 3);
+        x.meaning(0, 1200, 0);
+        Check.due("0 is a degree, too", x.means(0, 1200), 0);
+    }
+
+    private static void edgesOfLines() {
+        Diarycold x = new Diarycold();
+        x.book(0, 1200, 1899, -1);
+        x.meaning(0, 1200, 3);
+        x.line(0, 0, 0, 1200, 1, 1, 0);
+        x.line(0, 1, 0, 1200, 1, 1, 0);
+        x.line(0, 1, 0, 1899, 12, 31, 0);
+        x.line(0, 0, 0, 1899, 12, 19, 0);
+        x.line(0, 0, 0, 1899, 12, 20, 0);
+        x.line(0, 1, 1, 1899, 3, 24, 0);
+        x.line(0, 1, 2, 1899, 4, 2, 0);
+        x.line(0, 0, 2, 1899, 4, 9, 0);
+        String[] want = {"0: book 0, 1200-1-8, counts", "1: book 0, 1200-1-1, counts", "2: book 0, 1899-12-31, counts",
+            "3: book 0, 1899-12-31, counts", "4: book 0, 1900-1-1, flawed 4", "5: book 0, 1900-3-24, flawed 4",
+            "6: book 0, 1899-4-2 or 1900-4-2, flawed 3", "7: book 0, no day, flawed 2"};
+        for (int line = 0; line < want.length; line++) {
+            Check.due("tell(" + line + ")", x.tell(line), want[line]);
+        }
+        Check.due("year 1900", x.ofLine(4, 3), 1900);
+        Check.due("degree in 1900", x.ofLine(4, 5), 3);
+        Check.due("index of the first month", x.degree(0, 1200, 1, 1), 2);
+        Check.due("index of the last month", x.degree(0, 1899, 12, 1), 2);
+        Check.due("no index in 1900", x.degree(0, 1900, 1, 0), -999);
     }
 
     private static void telling() {

@@ -3,13 +3,17 @@ public final class BreakTest {
     public static void main(String[] args) {
         found();
         gainAtTheEdge();
+        gainJustBelowTheEdge();
         firstOfSeveral();
+        greaterByAFraction();
         several();
         divisions();
         weights();
         wholeRow();
         mended();
         held();
+        heldAtTheEdge();
+        greatest();
         Check.end();
     }
 
@@ -65,6 +69,25 @@ public final class BreakTest {
         breaks(x, "twice as great", 1, 1702, 2, 50);
     }
 
+    private static void gainJustBelowTheEdge() {
+        Diarycold x = new Diarycold();
+        readings(x, 0, 1700, 0, 0, 0, 0, 0, 0, 0, 0, 0);
+        readings(x, 1, 1700, 0, 0, 0, 0, -13, -13, -13, -14, -14);
+        // (0 * 5 + 67 * 4)^2 / 20 is 3591.2; the edge is 3600.
+        breaks(x, "just below the edge of nine years", 1, -1, -1, -999);
+        x.reading(1, 1708, -15);
+        // (0 * 5 + 68 * 4)^2 / 20 is 3699.2.
+        breaks(x, "just above it", 1, 1704, 4, -13);
+    }
+
+    private static void greaterByAFraction() {
+        Diarycold x = new Diarycold();
+        readings(x, 0, 1700, 0, 0, 0, 0, 0);
+        readings(x, 1, 1700, 0, 20, 80, -21, 50);
+        // Behind 1 the gain is 4160 1/4, behind 2 it is 4160 2/3.
+        breaks(x, "greater by a fraction", 1, 1702, 2, 26);
+    }
+
     private static void several() {
         Diarycold x = new Diarycold();
         readings(x, 0, 1700, 10, 11, 12, 13, 14);
@@ -80,6 +103,8 @@ public final class BreakTest {
         readings(x, 1, 1700, -5, 2, 90, 95, 96);
         // -3 / 2 is -1, 281 / 3 is 93; in one division it would be 95.
         breaks(x, "each part rounded by itself", 1, 1702, 2, 94);
+        readings(x, 1, 1700, 5, -2, -90, -95, -96);
+        breaks(x, "each part rounded toward 0", 1, 1702, 2, -94);
     }
 
     private static void weights() {
@@ -122,6 +147,44 @@ public final class BreakTest {
         Check.due("not a later one", late.ofYear(1, 1799, 2), 7);
         Check.due("nor a year without", late.ofYear(1, 1701, 2), -999);
         Check.due("readings", late.ofTown(1, 2), 6);
+    }
+
+    /** What is 900 or -900 is not held, what would be one more or less is. */
+    private static void heldAtTheEdge() {
+        Diarycold x = new Diarycold();
+        readings(x, 0, 1703, 0, 0, 0, 0);
+        readings(x, 1, 1703, -251, -251, 250, 250);
+        readings(x, 1, 1700, 400, 399, 398);
+        Check.due("mend by 501", x.mend(1), 501);
+        Check.due("901", x.ofYear(1, 1700, 2), 900);
+        Check.due("900", x.ofYear(1, 1701, 2), 900);
+        Check.due("899", x.ofYear(1, 1702, 2), 899);
+        Diarycold down = new Diarycold();
+        readings(down, 0, 1703, 0, 0, 0, 0);
+        readings(down, 1, 1703, 301, 301, -300, -300);
+        readings(down, 1, 1700, -300, -299, -298);
+        Check.due("mend by -601", down.mend(1), -601);
+        Check.due("-901", down.ofYear(1, 1700, 2), -900);
+        Check.due("-900", down.ofYear(1, 1701, 2), -900);
+        Check.due("-899", down.ofYear(1, 1702, 2), -899);
+        Check.due("readings", down.ofTown(1, 2), 7);
+    }
+
+    /** All years, as far apart as they can be told: gains of 49 * 10^8. */
+    private static void greatest() {
+        Diarycold x = new Diarycold();
+        for (int year = 1700; year <= 1799; year++) {
+            x.reading(0, year, year < 1750 ? 400 : -300);
+            x.reading(1, year, year < 1750 ? -300 : 400);
+        }
+        breaks(x, "in the middle of all years", 1, 1750, 50, 1400);
+        breaks(x, "of the other town", 0, 1750, 50, -1400);
+        x.reading(0, 1749, -300);
+        x.reading(1, 1749, 400);
+        breaks(x, "a year earlier", 1, 1749, 49, 1400);
+        x.reading(1, 1749, -300);
+        // Behind 49 and behind 50 the gains are 4802470784.3 and 4802490000.
+        breaks(x, "with a year between both", 1, 1750, 50, 1386);
     }
 
     private static void held() {

@@ -1,4 +1,5 @@
 import java.util.Objects;
+import java.util.function.Function;
 import java.util.function.Supplier;
 
 /** Counts what is wrong and ends with exit code 1 if anything was. */
@@ -39,6 +40,17 @@ final class Check {
         long before = x.digest();
         due(call, got, want);
         due("digest() after " + call, x.digest(), before);
+    }
+
+    /** The same of archives made in one way; by all that can be asked nothing is changed. */
+    static void refuses(Supplier<Diarycold> maker, String call, Function<Diarycold, Object> got, String want) {
+        due(call, () -> got.apply(maker.get()), want);
+        Supplier<Diarycold> refused = () -> {
+            Diarycold x = maker.get();
+            answer(() -> got.apply(x));
+            return x;
+        };
+        due("nothing is changed by " + call, new Answers(refused).areAlso(new Answers(maker)), true);
     }
 
     static void end() {

@@ -6,6 +6,7 @@ public final class DegreesTest {
         copiesFromAnotherTown();
         rounding();
         bounds();
+        manyWitnesses();
         withoutBooks();
         withoutByMonth();
         Check.end();
@@ -107,6 +108,25 @@ public final class DegreesTest {
         degrees(x, "at the least", 0, 1750, 6, -300, 1, 0, 0);
         degrees(x, "at the greatest", 0, 1750, 7, 300, 1, 0, 0);
         Check.due("both are sound", x.isSound(), true);
+    }
+
+    /** All 40 lines in one month, of a book and, one of them, of its copy. */
+    private static void manyWitnesses() {
+        Diarycold x = new Diarycold();
+        meanings(x);
+        x.book(0, 1200, 1899, -1);
+        x.book(0, 1200, 1899, 0);
+        x.book(0, 1200, 1899, 1);
+        for (int i = 0; i < 39; i++) {
+            x.line(1, 1, 0, 1750, 1, 1 + i % 31, i < 20 ? 0 : 6);
+        }
+        degrees(x, "with 39 witnesses", 0, 1750, 1, -7, 39, 6, 0);
+        x.line(2, 1, 0, 1750, 1, 1, 6);
+        degrees(x, "with 39 witnesses and a copied one", 0, 1750, 1, -7, 39, 6, 1);
+        Check.due("without the copy nothing changes", x.without(2), 0);
+        Check.due("without the book it does", x.without(1), 1);
+        x.withdraw(1, true);
+        degrees(x, "with the copied one alone", 0, 1750, 1, 300, 1, 0, 0);
     }
 
     private static void withoutBooks() {

@@ -2,7 +2,10 @@
 public final class DeskTest {
     public static void main(String[] args) {
         calls();
+        manyCalls();
         counts();
+        countsOfFull();
+        soundness();
         checksumOfNew();
         checksum();
         Check.end();
@@ -15,6 +18,16 @@ public final class DeskTest {
         }
         Check.due("refused", x.desk(12), 5);
         Check.due("of another object", new Diarycold().call(), 1);
+    }
+
+    /** All calls for which an archive is used. */
+    private static void manyCalls() {
+        Diarycold x = new Diarycold();
+        for (int i = 1; i <= 510; i++) {
+            Check.due("call " + i, x.call(), i);
+        }
+        Check.due("refused", x.desk(12), 510);
+        Check.due("the 512th call", x.call(), 511);
     }
 
     private static Diarycold filled() {
@@ -47,17 +60,16 @@ public final class DeskTest {
         x.prayer(0, 1722, 1, 1);
         x.mark(0, 1703, 120);
         x.mark(0, 1803, 100);
+        x.mark(0, 1899, 500);
+        x.mark(0, 1899, 99);
         x.call();
         return x;
     }
 
     private static void counts() {
         Diarycold x = filled();
-        int[] desk = {3, 1, 8, 3, 1, 1, 1, 1, 1, 2, 1, 2, 1};
-        for (int what = 0; what <= 12; what++) {
-            Check.due("desk(" + what + ")", x.desk(what), desk[what]);
-        }
-        int[] town = {2, 6, 6, 5, 2, 2, 2, 1, 2};
+        desk(x, "of a filled one", 3, 1, 8, 3, 1, 1, 1, 1, 1, 2, 1, 4, 1);
+        int[] town = {2, 6, 6, 5, 2, 2, 4, 1, 2};
         for (int what = 0; what <= 8; what++) {
             Check.due("ofTown(0, " + what + ")", x.ofTown(0, what), town[what]);
         }
@@ -66,6 +78,47 @@ public final class DeskTest {
             Check.due("ofTown(3, " + what + ")", x.ofTown(3, what), other[what]);
         }
         Check.due("isSound", x.isSound(), true);
+    }
+
+    private static void countsOfFull() {
+        Diarycold x = Archives.full();
+        desk(x, "of a full one", 8, 0, 40, 40, 0, 0, 0, 0, 0, 16, 8, 20, 0);
+        Check.due("a ninth book", () -> x.book(0, 1700, 1899, 7), Check.STATE);
+        Check.due("a 17th meaning", () -> x.meaning(7, 1899, 3), Check.STATE);
+        Check.due("a 41st line", () -> x.line(7, 1, 2, 1899, 12, 31, 7), Check.STATE);
+        Check.due("a ninth law", () -> x.law(3, 1799, 1799, 30), Check.STATE);
+        Check.due("a 21st mark", () -> x.mark(3, 1899, 999), Check.STATE);
+        desk(x, "still", 8, 0, 40, 40, 0, 0, 0, 0, 0, 16, 8, 20, 0);
+        int[] town = {2, 0, 4, 0, 0, 0, 5, 2, 3};
+        for (int i = 0; i < 4 * town.length; i++) {
+            int what = i % town.length;
+            Check.due("full: ofTown(" + i / town.length + ", " + what + ")", x.ofTown(i / town.length, what), town[what]);
+        }
+        for (int book = 0; book < 8; book++) {
+            Check.due("lines of a book", x.ofBook(book, 6), 5);
+            Check.due("those that count", x.ofBook(book, 7), 5);
+            x.withdraw(book, true);
+        }
+        desk(x, "all withdrawn", 8, 8, 40, 0, 40, 0, 0, 0, 0, 16, 8, 20, 0);
+        Check.due("withdrawn books are books of the town", x.ofTown(3, 0), 2);
+        Check.due("months with an index, all withdrawn", x.ofTown(3, 8), 0);
+    }
+
+    private static void desk(Diarycold x, String when, int... want) {
+        for (int what = 0; what <= 12; what++) {
+            Check.due("desk(" + what + ") " + when, x.desk(what), want[what]);
+        }
+    }
+
+    private static void soundness() {
+        Check.due("an empty one is sound", Archives.empty().isSound(), true);
+        Check.due("a filled one is sound", Archives.filled().isSound(), true);
+        Diarycold x = Archives.full();
+        Check.due("a full one is sound", x.isSound(), true);
+        for (int book = 0; book < 8; book++) {
+            x.withdraw(book, true);
+        }
+        Check.due("with all books withdrawn", x.isSound(), true);
     }
 
     /** Of a new object there are only the counts of desk and towns. */
@@ -125,6 +178,10 @@ public final class DeskTest {
         Check.due("digest", x.digest(), d);
         Check.due("the slope is no whole number", x.fit(0, false) != Math.rint(x.fit(0, false)), true);
         Check.due("a steep slope", x.fit(2, false) > 250.0, true);
+        double falling = 64.0 * x.fit(0, false);
+        Check.due("a falling slope, not yet cut", falling < 0.0 && falling != Math.rint(falling), true);
+        double returns = 64.0 * x.returns(0, 100);
+        Check.due("a return, not yet cut", returns != Math.rint(returns), true);
         Check.due("digest again", x.digest(), d);
         x.call();
         Check.due("another digest", x.digest() == d, false);

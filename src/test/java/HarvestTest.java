@@ -6,6 +6,8 @@ public final class HarvestTest {
         fits();
         leavingOut();
         tests();
+        edges();
+        testsWithoutFit();
         limits();
         Check.end();
     }
@@ -146,6 +148,46 @@ public final class HarvestTest {
         Check.due("by what was ripe", x.test(0, 1703), 25.0);
     }
 
+    private static void edges() {
+        Diarycold x = new Diarycold();
+        x.harvest(3, 1799, 330);
+        x.harvest(3, 1700, 150);
+        x.reading(3, 1799, 400);
+        x.reading(3, 1700, -300);
+        x.law(3, 1700, 1700, 0);
+        x.law(3, 1799, 1799, 30);
+        int[][] want = {{1700, 150, 150, -300, 0, 1}, {1799, 330, 300, 400, 30, 1}, {1701, -1, -1, -999, 0, 0},
+            {1798, -1, -1, -999, 0, 0}};
+        for (int[] row : want) {
+            for (int what = 0; what <= 4; what++) {
+                Check.due("ofYear(3, " + row[0] + ", " + what + ")", x.ofYear(3, row[0], what), row[what + 1]);
+            }
+        }
+        Check.due("the first year left out", x.leaveOut(3, 1700, true), 1);
+        Check.due("the last year left out", x.leaveOut(3, 1799, true), 0);
+        Check.due("the last year taken back", x.leaveOut(3, 1799, false), 1);
+        Check.due("harvests of another town", x.ofTown(0, 1), 0);
+        Check.due("laws of a town without harvests", x.law(0, 1700, 1799, 30), 3);
+        Check.due("days without a harvest", x.ofYear(0, 1750, 3), 30);
+    }
+
+    /** Three years are a fit, so there is none without one of them, nor if all others are alike. */
+    private static void testsWithoutFit() {
+        Diarycold x = new Diarycold();
+        int[][] told = {{250, 110}, {250, 100}, {270, 90}};
+        for (int i = 0; i < told.length; i++) {
+            x.harvest(0, 1700 + i, told[i][0]);
+            x.reading(0, 1700 + i, told[i][1]);
+        }
+        Check.due("a fit of three", x.heat(0, 1702), 90.0);
+        Check.due("two others", x.test(0, 1702), -999.0);
+        x.harvest(0, 1703, 250);
+        x.reading(0, 1703, 120);
+        Check.due("three others, all alike", x.test(0, 1702), -999.0);
+        Check.due("three others", x.test(0, 1703), -15.0);
+        Check.due("a year that is not there", x.test(0, 1799), -999.0);
+    }
+
     private static void limits() {
         Diarycold x = new Diarycold();
         for (int i = 0; i < 8; i++) {
@@ -158,6 +200,7 @@ public final class HarvestTest {
             one.law(0, 1700, 1799, 30);
         }
         one.harvest(0, 1750, 150);
+        Check.due("all laws", one.ofYear(0, 1799, 3), 240);
         Check.due("ripe before the year", one.ofYear(0, 1750, 1), -90);
     }
 }

@@ -3,7 +3,9 @@ public final class PrayersTest {
     public static void main(String[] args) {
         prayers();
         droughts();
-        allMonths();
+        turnsOfYears();
+        rungsAndCosts();
+        manyMonths();
         everyOther();
         marks();
         limits();
@@ -56,23 +58,58 @@ public final class PrayersTest {
         Check.due("sound", x.isSound(), true);
     }
 
-    private static void allMonths() {
+    /** As many as there can be in 512 calls, till the last month of all. */
+    private static void manyMonths() {
         Diarycold x = new Diarycold();
-        for (int month = 0; month < 1200; month++) {
+        for (int month = 1199; month >= 700; month--) {
             x.prayer(2, 1700 + month / 12, month % 12 + 1, 5);
         }
-        drought(x, 0, 1700 * 12, 1200, 19200, 5);
+        drought(x, 0, 1700 * 12 + 700, 500, 8000, 5);
         drought(x, 1, -1, -1, -1, -1);
+        Check.due("one drought", x.ofTown(2, 4), 1);
+        Check.due("the longest", x.ofTown(2, 5), 500);
+        Check.due("sound", x.isSound(), true);
     }
 
     private static void everyOther() {
         Diarycold x = new Diarycold();
-        for (int month = 0; month < 1200; month += 2) {
+        for (int month = 0; month < 1000; month += 2) {
             x.prayer(2, 1700 + month / 12, month % 12 + 1, 1);
         }
-        Check.due("droughts", x.ofTown(2, 4), 600);
-        drought(x, 599, 1799 * 12 + 10, 1, 1, 1);
+        Check.due("droughts", x.ofTown(2, 4), 500);
+        drought(x, 499, 1700 * 12 + 998, 1, 1, 1);
+        Check.due("no 501st", x.drought(2, 500, 0), -1);
+        Check.due("no 600th", x.drought(2, 599, 3), -1);
         Check.due("sound", x.isSound(), true);
+    }
+
+    /** December and January follow one another, but not those of one and the same year. */
+    private static void turnsOfYears() {
+        Diarycold x = new Diarycold();
+        x.prayer(2, 1712, 1, 1);
+        x.prayer(2, 1712, 12, 2);
+        Check.due("apart", x.ofTown(2, 4), 2);
+        x.prayer(2, 1713, 1, 3);
+        drought(x, 0, 1712 * 12, 1, 1, 1);
+        drought(x, 1, 1712 * 12 + 11, 2, 6, 3);
+        x.prayer(2, 1799, 12, 1);
+        x.prayer(2, 1700, 1, 1);
+        drought(x, 0, 1700 * 12, 1, 1, 1);
+        drought(x, 3, 1799 * 12 + 11, 1, 1, 1);
+        Check.due("the last month and the first one are apart", x.ofTown(2, 4), 4);
+        Check.due("the longest", x.ofTown(2, 5), 2);
+    }
+
+    private static void rungsAndCosts() {
+        int[] costs = {1, 2, 4, 8, 16};
+        Diarycold x = new Diarycold();
+        for (int rung = 1; rung <= 5; rung++) {
+            Check.due("rung " + rung, x.prayer(2, 1700 + rung, 1, rung), rung);
+            drought(x, rung - 1, (1700 + rung) * 12, 1, costs[rung - 1], rung);
+        }
+        Check.due("the same rung again", x.prayer(2, 1705, 1, 5), 5);
+        Check.due("the least one behind the greatest", x.prayer(2, 1705, 1, 1), 5);
+        drought(x, 4, 1705 * 12, 1, 16, 5);
     }
 
     private static void marks() {

@@ -15,8 +15,10 @@ public final class WrongInputsTest {
         asked(x);
         Diarycold full = full();
         order(full);
-        everyKind(x);
-        everyKind(new Diarycold());
+        everyKind(WrongInputsTest::filled);
+        everyKind(Archives::filled);
+        everyKind(WrongInputsTest::full);
+        everyKind(Diarycold::new);
         Check.end();
     }
 
@@ -164,7 +166,7 @@ public final class WrongInputsTest {
     }
 
     /** Whatever the arguments: an answer, or one of the three exceptions of the document itself. */
-    private static void everyKind(Diarycold x) {
+    private static void everyKind(Supplier<Diarycold> maker) {
         int[] values = {LOW, LOW + 1, -1000, -1, 0, 1, 2, 3, 5, 12, 100, 300, 1200, 1700, 1799, 1899, 1900, 500000, HIGH};
         java.util.Random random = new java.util.Random(7);
         java.util.Set<Object> kinds = new java.util.TreeSet<>();
@@ -176,7 +178,9 @@ public final class WrongInputsTest {
         }
         calls.sort(java.util.Comparator.comparing(java.lang.reflect.Method::getName));
         for (java.lang.reflect.Method method : calls) {
+            Diarycold x = maker.get();
             for (int round = 0; round < 3000; round++) {
+                x = round % 400 == 0 ? maker.get() : x;
                 Object[] arguments = new Object[method.getParameterCount()];
                 for (int i = 0; i < arguments.length; i++) {
                     boolean isFlag = method.getParameterTypes()[i] == boolean.class;
