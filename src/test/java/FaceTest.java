@@ -29,11 +29,14 @@ public final class FaceTest {
             if (!Modifier.isPrivate(method.getModifiers())) {
                 open.add(signature(method));
                 names.add(method.getName());
+                Check.due(method + " is public", Modifier.isPublic(method.getModifiers()), true);
             }
         }
         Check.due("the face", open, new TreeSet<>(FACE));
         Check.due("final", Modifier.isFinal(Diarycold.class.getModifiers()), true);
+        Check.due("public", Modifier.isPublic(Diarycold.class.getModifiers()), true);
         Check.due("constructors", Diarycold.class.getDeclaredConstructors().length, 1);
+        Check.due("public ones", Diarycold.class.getConstructors().length, 1);
         hidden(Diarycold.class, names);
         for (Class<?> inside : Diarycold.class.getDeclaredClasses()) {
             Check.due(inside + " static", Modifier.isStatic(inside.getModifiers()), true);
