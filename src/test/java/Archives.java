@@ -58,7 +58,7 @@ final class Archives {
     static Diarycold full() {
         Diarycold x = new Diarycold();
         for (int i = 0; i < 8; i++) {
-            x.book(i % 4, 1700, 1899, i < 4 ? -1 : i - 4);
+            x.book((i + 1) % 4, 1700, 1899, i < 4 ? -1 : i - 4);
             x.law(i % 4, 1700 + i, 1799, i);
         }
         for (int i = 0; i < 16; i++) {

@@ -11,6 +11,7 @@ public final class BooksTest {
         firstFlaw();
         lateByAnotherCalendar();
         edgesOfMeanings();
+        linesOfNextYears();
         edgesOfLines();
         telling();
         limits();
@@ -225,6 +226,24 @@ public final class BooksTest {
         Check.due("behind it", x.means(7, 1900), 3);
         x.meaning(0, 1200, 0);
         Check.due("0 is a degree, too", x.means(0, 1200), 0);
+    }
+
+    /** A line of a day in the next year keeps its word and its book, which is a copy and not the root. */
+    private static void linesOfNextYears() {
+        Diarycold x = new Diarycold();
+        x.book(0, 1700, 1899, -1);
+        x.book(0, 1700, 1899, 0);
+        x.meaning(3, 1700, -1);
+        x.line(1, 1, 1, 1817, 3, 24, 3);
+        x.line(1, 1, 1, 1818, 3, 24, 3);
+        x.line(1, 1, 2, 1818, 2, 1, 3);
+        x.line(1, 0, 2, 1700, 4, 10, 3);
+        int[][] want = {{1, 0, 1, 1818, 3, -1}, {1, 0, 1, 1819, 3, -1}, {1, 0, 1, 1819, 2, -1}, {1, 3, 2, 1700, 4, -1}};
+        for (int line = 0; line < want.length; line++) {
+            for (int what = 0; what <= 5; what++) {
+                Check.due("ofLine(" + line + ", " + what + ")", x.ofLine(line, what), want[line][what]);
+            }
+        }
     }
 
     private static void edgesOfLines() {

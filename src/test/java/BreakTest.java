@@ -7,6 +7,7 @@ public final class BreakTest {
         firstOfSeveral();
         greaterByAFraction();
         several();
+        offs();
         divisions();
         weights();
         wholeRow();
@@ -95,6 +96,27 @@ public final class BreakTest {
         readings(x, 2, 1700, -5, 200, 200, 210, 220);
         // Of town 2: -5 - 0, 200 - -1 (-3 / 2), 200 - 6, 210 - 6 (13 / 2), 220 - 7.
         breaks(x, "by means of two towns", 2, 1701, 1, 208);
+    }
+
+    /** The off of the first year alone, as READINGS of one, two and three other towns make it. */
+    private static void offs() {
+        // A sum, the half of it and the third of it, rounded toward 0.
+        int[][] told = {{0, 0, 0}, {1, 0, 0}, {-1, 0, 0}, {2, 1, 0}, {-2, -1, 0}, {5, 2, 1}, {-5, -2, -1}, {7, 3, 2},
+            {-7, -3, -2}};
+        for (int[] row : told) {
+            Diarycold x = new Diarycold();
+            for (int town = 0; town < 4; town++) {
+                readings(x, town, 1701, 0, 0, 0);
+            }
+            x.reading(2, 1700, 300);
+            x.reading(0, 1700, row[0]);
+            breaks(x, "with " + row[0] + " of one town", 2, 1701, 1, row[0] - 300);
+            x.reading(1, 1700, 0);
+            breaks(x, "with " + row[0] + " / 2", 2, 1701, 1, row[1] - 300);
+            x.reading(1, 1700, 100);
+            x.reading(3, 1700, -100);
+            breaks(x, "with " + row[0] + " / 3", 2, 1701, 1, row[2] - 300);
+        }
     }
 
     private static void divisions() {

@@ -131,6 +131,11 @@ public final class DaysTest {
         Check.due("31 September from 25 March on", x.wouldBe(1, 1, 1704, 9, 31), 0);
         Check.due("old 29 February 1900", x.wouldBe(0, 1, 1899, 2, 29), 1);
         Check.due("new 29 February 1900", x.wouldBe(1, 1, 1899, 2, 29), 0);
+        // Easter of 1818 is on 22 March, ahead of Lady Day.
+        Check.due("22 March behind an early Easter", x.wouldBe(1, 1, 1818, 3, 22), 1);
+        Check.due("24 March behind an early Easter", x.wouldBe(1, 1, 1818, 3, 24), 1);
+        Check.due("25 March behind an early Easter", x.wouldBe(1, 1, 1818, 3, 25), 1);
+        Check.due("24 March between Easters", x.wouldBe(1, 2, 1818, 3, 24), 2);
         Check.due("twice between Easters", x.wouldBe(0, 2, 1700, 4, 10), 2);
         Check.due("once between Easters", x.wouldBe(0, 2, 1700, 4, 25), 1);
         Check.due("never between Easters", x.wouldBe(0, 2, 1701, 4, 10), 0);

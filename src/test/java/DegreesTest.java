@@ -9,6 +9,7 @@ public final class DegreesTest {
         manyWitnesses();
         withoutBooks();
         withoutByMonth();
+        withoutByDegree();
         Check.end();
     }
 
@@ -156,6 +157,23 @@ public final class DegreesTest {
         Check.due("the original, withdrawn", x.without(0), 1);
         x.line(2, 1, 0, 1750, 6, 9, 4);
         Check.due("another book says the same", x.without(0), 0);
+    }
+
+    /** A book alone in its month is missed there, whatever it says. */
+    private static void withoutByDegree() {
+        for (int word = 0; word <= 6; word++) {
+            Diarycold x = new Diarycold();
+            meanings(x);
+            x.book(0, 1200, 1899, -1);
+            x.book(0, 1200, 1899, 0);
+            x.line(1, 1, 0, 1750, 6, 1, word);
+            Check.due("without the only line, of " + (word - 3), x.without(1), 1);
+            x.line(0, 1, 0, 1750, 6, 1, word);
+            Check.due("without a copied one, of " + (word - 3), x.without(1), 0);
+            x.withdraw(0, true);
+            x.withdraw(1, true);
+            Check.due("with the only one again, of " + (word - 3), x.without(1), 1);
+        }
     }
 
     private static void withoutByMonth() {

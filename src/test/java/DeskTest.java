@@ -1,3 +1,5 @@
+import java.util.function.Supplier;
+
 /** Promises 13, 28, 29, 34 and 35: the librarian, counts, soundness and the checksum. */
 public final class DeskTest {
     public static void main(String[] args) {
@@ -7,7 +9,11 @@ public final class DeskTest {
         countsOfFull();
         soundness();
         checksumOfNew();
-        checksum();
+        checksum(DeskTest::filled);
+        checksum(Archives::filled);
+        checksum(Archives::full);
+        checksum(Archives::empty);
+        cutting();
         Check.end();
     }
 
@@ -137,53 +143,72 @@ public final class DeskTest {
         Check.due("digest of a new object", new Diarycold().digest(), d);
     }
 
-    private static void checksum() {
-        Diarycold x = filled();
+    /** Each part is asked of an archive made anew, as one archive is used for 512 calls alone. */
+    private static void checksum(Supplier<Diarycold> maker) {
+        Diarycold x = maker.get();
         long d = 58270;
         for (int what = 0; what <= 12; what++) {
             d = d * 31 + x.desk(what);
         }
-        for (int book = 0; book < 3; book++) {
+        for (int book = 0; book < maker.get().desk(0); book++) {
             for (int what = 0; what <= 7; what++) {
                 d = d * 31 + x.ofBook(book, what);
             }
             d = d * 31 + x.without(book);
         }
-        for (int line = 0; line < 8; line++) {
-            for (int what = 0; what <= 5; what++) {
-                d = d * 31 + x.ofLine(line, what);
-            }
-            for (int nth = 0; nth <= 2; nth++) {
-                d = d * 31 + x.can(line, nth);
-            }
-            for (int what = 0; what <= 3 && x.can(line, 0) != -1; what++) {
-                int town = x.ofBook(x.ofLine(line, 0), 0);
-                d = d * 31 + x.degree(town, x.ofLine(line, 3), x.ofLine(line, 4), what);
-            }
+        for (int line = 0; line < maker.get().desk(2); line++) {
+            d = withLine(d, maker.get(), line);
         }
         for (int town = 0; town < 4; town++) {
-            for (int what = 0; what <= 8; what++) {
-                d = d * 31 + x.ofTown(town, what);
-            }
-            for (int what = 0; what <= 2; what++) {
-                d = d * 31 + x.ofBreak(town, what);
-            }
-            d = d * 31 + (long) (64 * x.fit(town, false));
-            d = d * 31 + (long) (64 * x.returns(town, 100));
-            for (int what = 0; what <= 3; what++) {
-                d = d * 31 + x.drought(town, 0, what);
-            }
+            d = withTown(d, maker.get(), town);
         }
         d = d * 31 + (x.isSound() ? 1 : 0);
-        Check.due("digest", x.digest(), d);
+        Check.due("digest", maker.get().digest(), d);
+        Check.due("digest of the archive that was asked", x.digest(), d);
+        Check.due("digest again", x.digest(), d);
+        x.call();
+        Check.due("another digest", x.digest() == d, false);
+    }
+
+    private static long withLine(long start, Diarycold x, int line) {
+        long d = start;
+        for (int what = 0; what <= 5; what++) {
+            d = d * 31 + x.ofLine(line, what);
+        }
+        for (int nth = 0; nth <= 2; nth++) {
+            d = d * 31 + x.can(line, nth);
+        }
+        for (int what = 0; what <= 3 && x.can(line, 0) != -1; what++) {
+            int town = x.ofBook(x.ofLine(line, 0), 0);
+            d = d * 31 + x.degree(town, x.ofLine(line, 3), x.ofLine(line, 4), what);
+        }
+        return d;
+    }
+
+    private static long withTown(long start, Diarycold x, int town) {
+        long d = start;
+        for (int what = 0; what <= 8; what++) {
+            d = d * 31 + x.ofTown(town, what);
+        }
+        for (int what = 0; what <= 2; what++) {
+            d = d * 31 + x.ofBreak(town, what);
+        }
+        d = d * 31 + (long) (64 * x.fit(town, false));
+        d = d * 31 + (long) (64 * x.returns(town, 100));
+        for (int what = 0; what <= 3; what++) {
+            d = d * 31 + x.drought(town, 0, what);
+        }
+        return d;
+    }
+
+    /** The numbers that digest() cuts are such that it can be seen. */
+    private static void cutting() {
+        Diarycold x = filled();
         Check.due("the slope is no whole number", x.fit(0, false) != Math.rint(x.fit(0, false)), true);
         Check.due("a steep slope", x.fit(2, false) > 250.0, true);
         double falling = 64.0 * x.fit(0, false);
         Check.due("a falling slope, not yet cut", falling < 0.0 && falling != Math.rint(falling), true);
         double returns = 64.0 * x.returns(0, 100);
         Check.due("a return, not yet cut", returns != Math.rint(returns), true);
-        Check.due("digest again", x.digest(), d);
-        x.call();
-        Check.due("another digest", x.digest() == d, false);
     }
 }

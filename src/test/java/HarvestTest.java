@@ -3,6 +3,7 @@ public final class HarvestTest {
     public static void main(String[] args) {
         harvestsAndReadings();
         laws();
+        lawsTogether();
         fits();
         leavingOut();
         tests();
@@ -56,6 +57,23 @@ public final class HarvestTest {
         Check.due("ripe without a harvest", x.ofYear(0, 1709, 1), -1);
         Check.due("laws of a town", x.ofTown(0, 7), 2);
         Check.due("laws", x.desk(10), 3);
+    }
+
+    /** Laws that lie over one another in part, told in either order. */
+    private static void lawsTogether() {
+        int[][] laws = {{1700, 1710, 10}, {1705, 1720, 7}, {1708, 1708, 2}};
+        int[][] want = {{1700, 10}, {1704, 10}, {1705, 17}, {1707, 17}, {1708, 19}, {1709, 17}, {1710, 17}, {1711, 7},
+            {1720, 7}, {1721, 0}};
+        for (int first = 0; first < laws.length; first++) {
+            Diarycold x = new Diarycold();
+            for (int i = 0; i < laws.length; i++) {
+                int[] law = laws[(first + i) % laws.length];
+                x.law(2, law[0], law[1], law[2]);
+            }
+            for (int[] row : want) {
+                Check.due("laws of " + row[0] + " from law " + first + " on", x.ofYear(2, row[0], 3), row[1]);
+            }
+        }
     }
 
     private static void fits() {
