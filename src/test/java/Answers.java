@@ -1,6 +1,9 @@
 import java.util.ArrayList;
+import java.util.Arrays;
 import java.util.List;
+import java.util.Map;
 import java.util.Objects;
+import java.util.TreeMap;
 import java.util.function.Function;
 import java.util.function.Supplier;
 
@@ -10,7 +13,10 @@ import java.util.function.Supplier;
  */
 final class Answers {
     private static final int LOT = 512 - Archives.CALLS - 1;
-    private static final List<Function<Diarycold, Object>> QUESTIONS = new ArrayList<>();
+    private static final List<Question> QUESTIONS = new ArrayList<>();
+
+    private record Question(String name, Function<Diarycold, Object> call) {
+    }
 
     private final List<Object> answers = new ArrayList<>();
 
@@ -41,8 +47,8 @@ final class Answers {
                 x = maker.get();
             }
             Diarycold asked = x;
-            Function<Diarycold, Object> question = QUESTIONS.get(i);
-            answers.add(Check.answer(() -> question.apply(asked)));
+            Question question = QUESTIONS.get(i);
+            answers.add(Check.answer(() -> question.call.apply(asked)));
         }
     }
 
@@ -50,77 +56,91 @@ final class Answers {
         return Objects.equals(answers, others.answers);
     }
 
-    private static void ask(Function<Diarycold, Object> question) {
-        QUESTIONS.add(question);
+    /** What answers otherwise there, by the name of the question, as "3 -> 4". */
+    Map<String, String> changesTo(Answers later) {
+        Map<String, String> changes = new TreeMap<>();
+        for (int i = 0; i < QUESTIONS.size(); i++) {
+            if (!answers.get(i).equals(later.answers.get(i))) {
+                changes.put(QUESTIONS.get(i).name, answers.get(i) + " -> " + later.answers.get(i));
+            }
+        }
+        return changes;
+    }
+
+    private static void ask(String name, Function<Diarycold, Object> call, Object... arguments) {
+        String told = Arrays.toString(arguments);
+        QUESTIONS.add(new Question(name + "(" + told.substring(1, told.length() - 1) + ")", call));
     }
 
     private static void counts() {
         for (int i = 0; i <= 12; i++) {
             int what = i;
-            ask(x -> x.desk(what));
+            ask("desk", x -> x.desk(what), what);
         }
-        ask(Diarycold::isSound);
-        ask(Diarycold::digest);
+        ask("isSound", Diarycold::isSound);
+        ask("digest", Diarycold::digest);
     }
 
     private static void ofBook(int book) {
         for (int i = 0; i <= 7; i++) {
             int what = i;
-            ask(x -> x.ofBook(book, what));
+            ask("ofBook", x -> x.ofBook(book, what), book, what);
         }
-        ask(x -> x.without(book));
+        ask("without", x -> x.without(book), book);
     }
 
     private static void ofLine(int line) {
         for (int i = 0; i <= 5; i++) {
             int what = i;
-            ask(x -> x.ofLine(line, what));
+            ask("ofLine", x -> x.ofLine(line, what), line, what);
         }
-        ask(x -> x.tell(line));
-        ask(x -> x.can(line, 1));
+        ask("tell", x -> x.tell(line), line);
+        ask("can", x -> x.can(line, 0), line, 0);
+        ask("can", x -> x.can(line, 1), line, 1);
     }
 
     private static void ofTown(int town) {
         for (int i = 0; i <= 8; i++) {
             int what = i;
-            ask(x -> x.ofTown(town, what));
+            ask("ofTown", x -> x.ofTown(town, what), town, what);
         }
         for (int i = 0; i <= 2; i++) {
             int what = i;
-            ask(x -> x.ofBreak(town, what));
+            ask("ofBreak", x -> x.ofBreak(town, what), town, what);
         }
-        ask(x -> x.fit(town, true));
-        ask(x -> x.fit(town, false));
+        ask("fit", x -> x.fit(town, true), town, true);
+        ask("fit", x -> x.fit(town, false), town, false);
         for (int i = 0; i < 12; i++) {
             int nth = i / 4;
             int what = i % 4;
-            ask(x -> x.drought(town, nth, what));
+            ask("drought", x -> x.drought(town, nth, what), town, nth, what);
         }
         for (int i = 1; i <= 999; i += 49) {
             int height = i;
-            ask(x -> x.returns(town, height));
+            ask("returns", x -> x.returns(town, height), town, height);
         }
         int[] years = {1200, 1700, 1705, 1706, 1711, 1712, 1750, 1800, 1899, 1900};
         for (int i = 0; i < years.length * 12 * 4; i++) {
             int year = years[i / 48];
             int month = i / 4 % 12 + 1;
             int what = i % 4;
-            ask(x -> x.degree(town, year, month, what));
+            ask("degree", x -> x.degree(town, year, month, what), town, year, month, what);
         }
     }
 
     private static void ofYear(int town, int year) {
         for (int i = 0; i <= 4; i++) {
             int what = i;
-            ask(x -> x.ofYear(town, year, what));
+            ask("ofYear", x -> x.ofYear(town, year, what), town, year, what);
         }
-        ask(x -> x.heat(town, year));
+        ask("heat", x -> x.heat(town, year), town, year);
+        ask("test", x -> x.test(town, year), town, year);
     }
 
     private static void means(int word) {
         int[] years = {1200, 1201, 1599, 1600, 1699, 1700, 1707, 1708, 1715, 1799, 1800, 1899, 1900};
         for (int asked : years) {
-            ask(x -> x.means(word, asked));
+            ask("means", x -> x.means(word, asked), word, asked);
         }
     }
 }
