@@ -20,6 +20,7 @@ public final class AfterwardsTest {
         withdrawals();
         meanings();
         linesThatCount();
+        linesAheadOfTheirBook();
         flawedLines();
         harvests();
         laws();
@@ -121,13 +122,19 @@ public final class AfterwardsTest {
         });
     }
 
-    private static void meanings() {
+    private static AfterwardsTest dueInsteadOfWord0() {
         AfterwardsTest due = due().change("desk(9)", 3, 4).change("ofLine(0, 5)", -2, 1)
                 .change("degree(0, 1705, 1, 0)", -200, 100);
         for (int year : new int[] {1707, 1708, 1715, 1799, 1800, 1899, 1900}) {
             due.change("means(0, " + year + ")", -2, 1);
         }
-        due.behind("a later meaning", x -> x.meaning(0, 1705, 1));
+        return due;
+    }
+
+    private static void meanings() {
+        dueInsteadOfWord0().behind("a later meaning", x -> x.meaning(0, 1705, 1));
+        dueInsteadOfWord0().change("means(0, 1700)", -2, 1)
+                .behind("another meaning of the same year", x -> x.meaning(0, 1700, 1));
         due().change("desk(9)", 3, 4).change("means(1, 1599)", -99, 0)
                 .behind("an earlier meaning", x -> x.meaning(1, 1500, 0));
         due().change("desk(9)", 3, 4).behind("a meaning told again", x -> x.meaning(0, 1700, -2));
@@ -154,6 +161,16 @@ public final class AfterwardsTest {
                 .fresh("can(6, 0)", 622692).fresh("can(6, 1)", -1)
                 .change("degree(0, 1705, 1, 3)", 1, 2)
                 .behind("a line of a copy", x -> x.line(1, 0, 0, 1705, 1, 1, 0));
+    }
+
+    /** The first year of a book bounds nothing. */
+    private static void linesAheadOfTheirBook() {
+        due().change("desk(2)", 6, 7).change("desk(3)", 3, 4)
+                .change("ofBook(0, 6)", 1, 2).change("ofBook(0, 7)", 1, 2)
+                .freshLine(6, "6: book 0, 1699-12-31, counts", 0, 0, 1, 1699, 12, 3)
+                .fresh("can(6, 0)", 620854).fresh("can(6, 1)", -1)
+                .change("without(0)", 1, 2).change("ofTown(0, 8)", 2, 3)
+                .behind("a line ahead of the first year", x -> x.line(0, 1, 0, 1699, 12, 31, 1));
     }
 
     private static void flawedLines() {
